@@ -1,0 +1,75 @@
+/** Promise 9: how many steps the latest find() made. */
+public final class StepsTest {
+    public static void main(String[] args) {
+        countsSteps();
+        isOfTheLatestFind();
+        goesUpToFiveHundred();
+        Check.end();
+    }
+
+    private static void steps(String pattern, int flags, String text, int due) {
+        PatternRunner runner = Check.ready(pattern, flags, text);
+        runner.find();
+        Check.is("steps() of " + pattern + " in " + text, due, runner.steps());
+    }
+
+    private static void countsSteps() {
+        steps("", 0, "", 1);
+        steps("a", 0, "a", 2);
+        steps("a", 0, "", 2);
+        steps("a", 0, "bba", 6);
+        steps("a", 1, "bba", 2);
+        steps("^$", 0, "", 1);
+        steps("^$", 0, "ab", 3);
+        steps("(a+)(b*)", 0, "xaabbaab", 12);
+        steps("(?:){3}(a?){2,4}?a$", 0, "aaaa", 12);
+        steps("(a|ab)(c|bcd)(d*)", 0, "b", 10);
+        steps("(a*)*b", 0, "aaaa", 124);
+        steps("||", 0, "", 1);
+        steps("a|b|", 0, "", 5);
+        steps("(?:)", 0, "", 2);
+        steps("()\\1", 0, "", 3);
+        steps("\\1(a)", 0, "a", 4);
+        steps("(?=a)a", 0, "a", 4);
+        steps("(?!a)b", 0, "b", 4);
+        steps("(?!a)", 0, "", 3);
+        steps("a{0}", 0, "a", 1);
+        steps("a{0,0}(b){0}", 0, "a", 1);
+        steps("a{3}", 0, "aaa", 4);
+        steps("a??", 0, "a", 1);
+        steps("a?", 0, "a", 2);
+        steps(".\\d[b]", 0, "a1b", 4);
+        steps("(?:a|b)+", 0, "ab", 11);
+    }
+
+    private static void isOfTheLatestFind() {
+        PatternRunner runner = Check.ready("a", 0, "bba");
+        Check.is("steps() before a find()", 0, runner.steps());
+        runner.find();
+        Check.is("steps()", 6, runner.steps());
+        Check.is("nothing behind it", -1, runner.find());
+        Check.is("steps() at the end alone", 2, runner.steps());
+        runner.start(4);
+        runner.find();
+        Check.is("steps() from behind the end", 0, runner.steps());
+        runner.find();
+        Check.replace(runner, "x");
+        Check.is("steps() is not of replace()", 6, runner.steps());
+        Check.text(runner, "x");
+        Check.pattern(runner, "x", 0);
+        Check.is("steps() stays with a new text and pattern", 6, runner.steps());
+        Check.pattern(runner, "(a*)*b", 0);
+        Check.text(runner, "aaaaaaaaaaaaaaaaaaaaaaaa");
+        Check.refuses("too many steps", UnsupportedOperationException.class, runner::find);
+        Check.is("steps() stays when find() throws", 6, runner.steps());
+    }
+
+    private static void goesUpToFiveHundred() {
+        steps("a+?b|c|d", 0, "aaaaaaaaaaaaaaaaaaa", 500);
+        steps("a*b|()c", 0, "aaaaaaaaaaaaaaaaaaa", 500);
+        steps("a*b|ac", 0, "aaaaaaaaaaaaaaaaaaa", 499);
+        PatternRunner more = Check.ready("(a+)+b", 0, "aaaaaa");
+        Check.refuses("501 steps", UnsupportedOperationException.class, more::find);
+        Check.is("steps() when find() threw", 0, more.steps());
+    }
+}
