@@ -23,7 +23,8 @@ public final class PatternRunner {
     private static final int MOST_GROUPS = 9;
     private static final int MOST_NESTED = 8;
     private static final int MOST_WEIGHT = 120;
-    private static final int ENDLESS = Integer.MAX_VALUE;
+    // More than any atom can be passed in a text of 24 signs.
+    private static final int ENDLESS = 1000000;
 
     // "a*" is the shortest atom with a count and "(?=)" the shortest look in a pattern of 40 signs.
     private static final int MOST_LOOPS = 20;
@@ -97,7 +98,6 @@ public final class PatternRunner {
         startPlace = 0;
         stepsMade = 0;
         forgetFound();
-        reader.read(0, program);
     }
 
     public int type(long signs, int n) throws IllegalArgumentException {
@@ -227,8 +227,9 @@ public final class PatternRunner {
     }
 
     private void writeTemplate() {
-        for (int i = 0; i < typed.length(); i += writePart(i)) {
-            // writePart answers 1 or 2, so the end is come to.
+        int i = 0;
+        for (int part = 0; part < MOST_TYPED && i < typed.length(); part++) {
+            i += writePart(i);
         }
     }
 
@@ -398,6 +399,14 @@ public final class PatternRunner {
         private int looks;
         private int groups;
         private int flags;
+
+        /** The empty pattern: one alternative with nothing in it. */
+        Program() {
+            kinds[0] = ALTERNATIVE;
+            aims[0] = NONE;
+            kinds[1] = FINISH;
+            size = 2;
+        }
 
         void clear(int newFlags) {
             size = 0;
@@ -840,10 +849,14 @@ public final class PatternRunner {
      * another way left. Taking a choice anew undoes all changes that came behind it.
      */
     private static final class Past {
+        // A choice takes three cells and a change two.
+        private static final int FIRST_CHOICES = 192;
+        private static final int FIRST_CHANGES = 512;
+
         private final int[] marks = new int[ALL_MARKS];
-        // Both rows grow when they are full: few patterns need much, and 500 steps bound it.
-        private int[] choices = new int[192];
-        private int[] changes = new int[512];
+        // These two grow when they are full: few patterns need much, and 500 steps bound it.
+        private int[] choices = new int[FIRST_CHOICES];
+        private int[] changes = new int[FIRST_CHANGES];
         private int choicesUsed;
         private int changesUsed;
         private int placeBack;

@@ -15,6 +15,7 @@ public final class FindTest {
         takesGroups();
         takesReferences();
         takesLooks();
+        holdsManyChoices();
         throwsAboveFiveHundred();
         Check.end();
     }
@@ -254,6 +255,15 @@ public final class FindTest {
         finds("(?!)|b", 0, "ab", "1-2");
         finds("(?=(?=(?!b)a)a)(?!aa)a", 0, "aab", "1-2");
         finds("(?:(a)|(b))*(?!c)", 0, "abc", "0-1 1:0-1 2:none");
+    }
+
+    private static void holdsManyChoices() {
+        String text = "dddddddddddddddddddddddd";
+        finds("(?:(?:a*?b*?c*?d*?e*?f*?){5}d)*", 0, text, "0-24");
+        finds("(?:(?:a*?b*?c*?){9}d)*", 0, text, "0-24");
+        finds("(?:(?=((d)))(?:a??){9}(d|e))*", 0, text, "0-24 1:23-24 2:23-24 3:23-24");
+        finds("(?:((((((d)|e))))))*", 0, text,
+            "0-24 1:23-24 2:23-24 3:23-24 4:23-24 5:23-24 6:23-24");
     }
 
     private static void throwsAboveFiveHundred() {

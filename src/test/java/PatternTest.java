@@ -119,7 +119,8 @@ public final class PatternTest {
 
     private static void refusesByReferencesAndGroups() {
         refuses("\\1", "(a)\\2", "\\2(a)", "(?:a)\\1", "(?=a)\\1", "\\0", "(a)\\0",
-            "(a)(b)(c)(d)(e)(f)(g)(h)\\9", "()()()()()()()()()()", "(a)(b)(c)(d)(e)(f)(g)(h)(i)(j)");
+            "(a)(b)(c)(d)(e)(f)(g)(h)\\9", "()()()()()()()()()()",
+            "(a)(b)(c)(d)(e)(f)(g)(h)(i)(j)");
         reads("(a)\\1", 1);
         reads("\\1(a)", 1);
         reads("(a\\1)", 1);

@@ -39,8 +39,9 @@ public final class RandomRunsTest {
     }
 
     private void go() {
-        for (int call = 0; call < CALLS; ) {
-            call += some();
+        int calls = 0;
+        while (calls < CALLS) {
+            calls += some();
         }
     }
 
@@ -185,6 +186,10 @@ public final class RandomRunsTest {
     }
 
     private String aPattern() {
+        if (random.nextInt(10) == 0) {
+            return pick("(a*)*b", "(a|b)*?c", "(?:a|(a))+$", "(a+)+\\1b", "(?=(a*)*b)|a*", "(.?.)*x",
+                "(?!(a|b)*c)\\w*1", "a*a*a*b", "(?:[ab]{1,3}?)*c", "((a?)*)*b|b", "(a{2,3}|a)*1");
+        }
         String pattern = alternatives(random.nextInt(4));
         for (int tries = 0; tries < 20 && pattern.length() > 40; tries++) {
             pattern = alternatives(random.nextInt(4));
@@ -252,7 +257,7 @@ public final class RandomRunsTest {
     private String aText() {
         StringBuilder all = new StringBuilder();
         String from = pick("ab", "ab", "a", "aAbB/", "ab/ 1-_", "abcABC/ 109-_^[]+zZ.$");
-        for (int signs = random.nextInt(random.nextInt(6) == 0 ? 28 : 12); signs > 0; signs--) {
+        for (int signs = random.nextInt(random.nextInt(3) == 0 ? 28 : 12); signs > 0; signs--) {
             all.append(from.charAt(random.nextInt(from.length())));
         }
         return all.toString();
