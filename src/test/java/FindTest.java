@@ -129,6 +129,10 @@ public final class FindTest {
         fits("[[-]", 0, "-[");
         fits("[ -~]", 0, allBut(""));
         fits("[.*]", 0, "*.");
+        fits("(?:1|[a]|A[b])", 0, "1a");
+        finds("[^a]", 0, "a", "none");
+        finds("\\D", 0, "1", "none");
+        finds(".", 0, "", "none");
     }
 
     private static void fitsAlike() {
@@ -206,6 +210,7 @@ public final class FindTest {
         finds("(){2,3}a", 0, "a", "0-1 1:0-0");
         finds("(?:(a)|b)*?$", 0, "ab", "0-2 1:none");
         finds("(?:a{2}){2}", 0, "aaaaa", "0-4");
+        finds("a*b*a*b*a*b*a*b*a*b*a*b*a*b*a*b*a*b*a*b*", 0, "abbaababbbabc", "0-12");
         finds("(?:a|b{2,3}?)*c", 0, "abbabbbac", "0-9");
         finds("(?:(?:ab){2}c){2}", 0, "ababcababc", "0-10");
     }
@@ -228,6 +233,7 @@ public final class FindTest {
         finds("(ab)\\1", ALIKE, "abAB", "0-4 1:0-2");
         finds("(aB1-)\\1", ALIKE, "Ab1-aB1-", "0-8 1:0-4");
         finds("(.)\\1", ALIKE, "@`[{", "none");
+        finds("(az)\\1", ALIKE, "AZaz", "0-4 1:0-2");
         finds("\\1(a)", 0, "a", "0-1 1:0-1");
         finds("(a\\1)", 0, "aa", "0-1 1:0-1");
         finds("(?:(a)|b)\\1c", 0, "bc", "0-2 1:none");
@@ -252,6 +258,10 @@ public final class FindTest {
         finds("(?:(?=(a|b))[ab])*", 0, "ab", "0-2 1:1-2");
         finds("(?=a|ab)ab(?=$)", 0, "ab", "0-2");
         finds("(?=)a", 0, "a", "0-1");
+        finds("(?=a(?=b))a", 0, "ab", "0-1");
+        finds("(?=a(?!c)b)(?!a(?=c))a", 0, "acab", "2-3");
+        finds("(?=)(?=)(?=)(?=)(?=)(?=)(?=)(?=)(?=)(?=)", 0, "a", "0-0");
+        finds("(?!b)(?!b)(?!b)(?!b)(?!b)(?!b)(?!b)(?!b)", 0, "ba", "1-1");
         finds("(?!)|b", 0, "ab", "1-2");
         finds("(?=(?=(?!b)a)a)(?!aa)a", 0, "aab", "1-2");
         finds("(?:(a)|(b))*(?!c)", 0, "abc", "0-1 1:0-1 2:none");

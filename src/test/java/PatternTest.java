@@ -55,6 +55,8 @@ public final class PatternTest {
         reads("\\^\\$\\\\\\.\\*\\+\\?\\(\\)\\[\\]\\{\\}\\|\\/", 0);
         reads("\\d\\w\\s\\D\\W\\S", 0);
         reads("a|", 0);
+        reads("a?:b?=c?!", 0);
+        reads("(a:)(=)(!)", 3);
         reads("(a)\\10", 1);
         reads("(|)", 1);
     }
