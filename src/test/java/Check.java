@@ -1,13 +1,24 @@
 /** What the tests share: typing whole strings, comparing answers, and ending with an exit code. */
 final class Check {
+    static final int STICKY = 1;
+    static final int LINES = 2;
+    static final int ALIKE = 4;
+    static final String SPECIAL = "^$\\.*+?()[]{}|";
+
     private static int made = 0;
     private static int wrong = 0;
+    private static String sentence = "";
 
     interface Call {
         long answer();
     }
 
     private Check() {
+    }
+
+    /** The words of the document that the checks behind this are about; told with what is wrong. */
+    static void sentence(String words) {
+        sentence = words;
     }
 
     static void is(String what, long due, long got) {
@@ -44,7 +55,7 @@ final class Check {
 
     static void complain(String text) {
         wrong++;
-        System.out.println(text);
+        System.out.println(sentence.isEmpty() ? text : text + " [" + sentence + "]");
     }
 
     static void end() {
@@ -103,9 +114,94 @@ final class Check {
         return all.toString();
     }
 
-    /** How many signs are typed, told by typing one more; the object has one more then. */
+    static void reads(String pattern, int groups) {
+        try {
+            is("groups of " + pattern, groups, pattern(new PatternRunner(), pattern, 0));
+        } catch (IllegalArgumentException e) {
+            complain(pattern + " was refused, due is " + groups);
+        }
+    }
+
+    /** A pattern is refused whatever the flags are, and is no longer typed then. */
+    static void refusesPatterns(String... patterns) {
+        for (String pattern : patterns) {
+            PatternRunner runner = new PatternRunner();
+            for (int flags = 0; flags <= 7; flags++) {
+                int with = flags;
+                type(runner, pattern);
+                refuses("pattern " + pattern, IllegalArgumentException.class,
+                    () -> runner.pattern(with));
+                is("text() behind the refused " + pattern, 0, runner.text());
+            }
+        }
+    }
+
+    static void readsOrRefuses(boolean isRead, String pattern, int groups) {
+        if (isRead) {
+            reads(pattern, groups);
+        } else {
+            refusesPatterns(pattern);
+        }
+    }
+
+    static void finds(String pattern, int flags, String text, String due) {
+        isText("find() of " + pattern + " with " + flags + " in " + text, due,
+            found(pattern, flags, text));
+    }
+
+    static void steps(String pattern, int flags, String text, int due) {
+        PatternRunner runner = ready(pattern, flags, text);
+        runner.find();
+        is("steps() of " + pattern + " with " + flags + " in " + text, due, runner.steps());
+    }
+
+    /** Compares what fits an atom of one sign with a list in order, for all signs. */
+    static void fits(String atom, int flags, String due) {
+        PatternRunner runner = new PatternRunner();
+        pattern(runner, "^" + atom + "$", flags);
+        StringBuilder got = new StringBuilder();
+        for (char sign = 32; sign <= 126; sign++) {
+            text(runner, String.valueOf(sign));
+            if (runner.find() == 0 && runner.to(0) == 1) {
+                got.append(sign);
+            }
+        }
+        isText("what fits " + atom + " with " + flags, due, got.toString());
+    }
+
+    static String signs(char first, char last) {
+        StringBuilder all = new StringBuilder();
+        for (char sign = first; sign <= last; sign++) {
+            all.append(sign);
+        }
+        return all.toString();
+    }
+
+    static String allBut(String some) {
+        StringBuilder all = new StringBuilder();
+        for (char sign = 32; sign <= 126; sign++) {
+            if (some.indexOf(sign) < 0) {
+                all.append(sign);
+            }
+        }
+        return all.toString();
+    }
+
+    static void replaces(String pattern, int flags, String text, String template, int count,
+            String due) {
+        PatternRunner runner = ready(pattern, flags, text);
+        String what = "replace() of " + pattern + " by " + template + " in " + text;
+        is(what, count, replace(runner, template));
+        isText(what, due, result(runner));
+    }
+
+    /** How many signs are typed, told by typing one more; the object has one more then, or 40. */
     static int typedBeforeOneMore(PatternRunner runner) {
-        return runner.type('t', 1) - 1;
+        try {
+            return runner.type('t', 1) - 1;
+        } catch (IllegalArgumentException e) {
+            return 40;
+        }
     }
 
     /**

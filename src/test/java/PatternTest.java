@@ -15,54 +15,31 @@ public final class PatternTest {
         Check.end();
     }
 
-    private static void reads(String pattern, int groups) {
-        try {
-            int got = Check.pattern(new PatternRunner(), pattern, 0);
-            Check.is("groups of " + pattern, groups, got);
-        } catch (IllegalArgumentException e) {
-            Check.complain(pattern + " was refused, due is " + groups);
-        }
-    }
-
-    private static void refuses(String... patterns) {
-        for (String pattern : patterns) {
-            PatternRunner runner = new PatternRunner();
-            Check.type(runner, pattern);
-            for (int flags = 0; flags <= 4; flags += 4) {
-                int with = flags;
-                Check.refuses("pattern " + pattern, WRONG, () -> runner.pattern(with));
-                Check.is("nothing is typed behind " + pattern, 0,
-                    Check.typedBeforeOneMore(runner));
-                runner.text();
-                Check.type(runner, pattern);
-            }
-        }
-    }
-
     private static void answersHowManyGroups() {
-        reads("", 0);
-        reads("|", 0);
-        reads("||", 0);
-        reads("()", 1);
-        reads("(?:)", 0);
-        reads("(?=)(?!)", 0);
-        reads("(a)(?:(b)|(?=(c)))(?!(d))", 4);
-        reads("(a)(b)(c)(d)(e)(f)(g)(h)(i)", 9);
-        reads("^^$$", 0);
-        reads("a*?b+?c??d{2}?e{2,}?f{2,3}?", 0);
-        reads("a{0}b{0,0}c{9,9}", 0);
-        reads("-/,:=!<>_~ \"#%&'@`;", 0);
-        reads("\\^\\$\\\\\\.\\*\\+\\?\\(\\)\\[\\]\\{\\}\\|\\/", 0);
-        reads("\\d\\w\\s\\D\\W\\S", 0);
-        reads("a|", 0);
-        reads("a?:b?=c?!", 0);
-        reads("(a:)(=)(!)", 3);
-        reads("(a)\\10", 1);
-        reads("(|)", 1);
+        Check.reads("", 0);
+        Check.reads("|", 0);
+        Check.reads("||", 0);
+        Check.reads("()", 1);
+        Check.reads("(?:)", 0);
+        Check.reads("(?=)(?!)", 0);
+        Check.reads("(a)(?:(b)|(?=(c)))(?!(d))", 4);
+        Check.reads("(a)(b)(c)(d)(e)(f)(g)(h)(i)", 9);
+        Check.reads("^^$$", 0);
+        Check.reads("a*?b+?c??d{2}?e{2,}?f{2,3}?", 0);
+        Check.reads("a{0}b{0,0}c{9,9}", 0);
+        Check.reads("-/,:=!<>_~ \"#%&'@`;", 0);
+        Check.reads("\\^\\$\\\\\\.\\*\\+\\?\\(\\)\\[\\]\\{\\}\\|\\/", 0);
+        Check.reads("\\d\\w\\s\\D\\W\\S", 0);
+        Check.reads("a|", 0);
+        Check.reads("a?:b?=c?!", 0);
+        Check.reads("(a:)(=)(!)", 3);
+        Check.reads("(a)\\10", 1);
+        Check.reads("(|)", 1);
     }
 
     private static void refusesWhatIsNoPattern() {
-        refuses("*", "+", "?", "{2}", "{", "}", "]", ")", "a)", "(", "(a", "(?:a", "(?=a", "(?!a",
+        Check.refusesPatterns(
+            "*", "+", "?", "{2}", "{", "}", "]", ")", "a)", "(", "(a", "(?:a", "(?=a", "(?!a",
             "[", "[a", "[^", "[\\]", "\\", "a\\", "(?", "(?)", "(?a)", "(?<a)", "(?*a)", "()?:)",
             "a**", "a+*", "a?*", "a???", "a{2}{3}", "a{2}*", "a*{2}", "a{2}??", "^*", "$+", "^?",
             "${2}", "(?=a)*", "(?!a)?", "(?=a){2}", "|*", "(*a)", "(|*)", "a|+",
@@ -71,110 +48,112 @@ public final class PatternTest {
         for (char sign = 32; sign <= 126; sign++) {
             boolean fine = "^$\\.*+?()[]{}|/dwsDWS".indexOf(sign) >= 0;
             if (fine) {
-                reads("\\" + sign, 0);
+                Check.reads("\\" + sign, 0);
             } else {
-                refuses("\\" + sign);
+                Check.refusesPatterns("\\" + sign);
             }
             if (fine || sign == '-') {
-                reads("[\\" + sign + "]", 0);
+                Check.reads("[\\" + sign + "]", 0);
             } else {
-                refuses("[\\" + sign + "]");
+                Check.refusesPatterns("[\\" + sign + "]");
             }
             if ("\\*+?()[]{}|".indexOf(sign) >= 0 && sign != '|') {
-                refuses(String.valueOf(sign));
+                Check.refusesPatterns(String.valueOf(sign));
             } else {
-                reads(String.valueOf(sign), 0);
+                Check.reads(String.valueOf(sign), 0);
             }
             if (sign != '\\' && sign != ']') {
-                reads("[" + sign + "]", 0);
+                Check.reads("[" + sign + "]", 0);
             }
         }
     }
 
     private static void readsSets() {
-        reads("[]", 0);
-        reads("[^]", 0);
-        reads("[^^]", 0);
-        reads("[-]", 0);
-        reads("[--]", 0);
-        reads("[---]", 0);
-        reads("[a-]", 0);
-        reads("[^-a]", 0);
-        reads("[a-a]", 0);
-        reads("[ -~]", 0);
-        reads("[\\d-]", 0);
-        reads("[-\\d]", 0);
-        reads("[a-c-\\d]", 0);
-        reads("[a-c-a]", 0);
-        reads("[--a]", 0);
-        reads("[+--]", 0);
-        reads("[\\--a]", 0);
-        reads("[!-\\-]", 0);
-        reads("[(-\\)]", 0);
-        reads("[*+?(){}|.$^[]", 0);
-        refuses("[b-a]", "[a-\\d]", "[\\d-a]", "[\\w-\\d]", "[\\d--]", "[a--]", "[z-a-c]", "[a-",
+        Check.reads("[]", 0);
+        Check.reads("[^]", 0);
+        Check.reads("[^^]", 0);
+        Check.reads("[-]", 0);
+        Check.reads("[--]", 0);
+        Check.reads("[---]", 0);
+        Check.reads("[a-]", 0);
+        Check.reads("[^-a]", 0);
+        Check.reads("[a-a]", 0);
+        Check.reads("[ -~]", 0);
+        Check.reads("[\\d-]", 0);
+        Check.reads("[-\\d]", 0);
+        Check.reads("[a-c-\\d]", 0);
+        Check.reads("[a-c-a]", 0);
+        Check.reads("[--a]", 0);
+        Check.reads("[+--]", 0);
+        Check.reads("[\\--a]", 0);
+        Check.reads("[!-\\-]", 0);
+        Check.reads("[(-\\)]", 0);
+        Check.reads("[*+?(){}|.$^[]", 0);
+        Check.refusesPatterns(
+            "[b-a]", "[a-\\d]", "[\\d-a]", "[\\w-\\d]", "[\\d--]", "[a--]", "[z-a-c]", "[a-",
             "[a-\\", "[a-\\q]", "[\\q-a]", "[\\-", "[a-c-", "[]-a]", "[a-\\S-]", "[a-c---+]",
             "[a-Z]", "[\\]-A]", "[^b-a]", "[\\1]", "[\\0]", "[0-9-z-a]");
-        reads("[a-c---a]", 0);
-        reads("[0-9-a-z]", 0);
+        Check.reads("[a-c---a]", 0);
+        Check.reads("[0-9-a-z]", 0);
     }
 
     private static void refusesByReferencesAndGroups() {
-        refuses("\\1", "(a)\\2", "\\2(a)", "(?:a)\\1", "(?=a)\\1", "\\0", "(a)\\0",
+        Check.refusesPatterns("\\1", "(a)\\2", "\\2(a)", "(?:a)\\1", "(?=a)\\1", "\\0", "(a)\\0",
             "(a)(b)(c)(d)(e)(f)(g)(h)\\9", "()()()()()()()()()()",
             "(a)(b)(c)(d)(e)(f)(g)(h)(i)(j)");
-        reads("(a)\\1", 1);
-        reads("\\1(a)", 1);
-        reads("(a\\1)", 1);
-        reads("(?!(a))\\1", 1);
-        reads("(a)(b)(c)(d)(e)(f)(g)(h)(i)\\9", 9);
+        Check.reads("(a)\\1", 1);
+        Check.reads("\\1(a)", 1);
+        Check.reads("(a\\1)", 1);
+        Check.reads("(?!(a))\\1", 1);
+        Check.reads("(a)(b)(c)(d)(e)(f)(g)(h)(i)\\9", 9);
     }
 
     private static void refusesByNesting() {
-        reads("((((((((a))))))))", 8);
-        reads("(?:(?:(?:(?:(?:(?:(?:(?:a))))))))", 0);
-        reads("(?=(?!(?:((?=(?!(?:())))))))", 2);
-        reads("((((((((a))))))))(a)", 9);
-        refuses("(((((((((a)))))))))");
-        refuses("(?:((((((((a)))))))))");
-        refuses("(?=((((((((a)))))))))");
-        refuses("((((((((?!(a)))))))))", "((((((((?!(?:a)))))))))");
-        refuses("(?:(?:(?:(?:(?:(?:(?:(?:(?:a)))))))))");
+        Check.reads("((((((((a))))))))", 8);
+        Check.reads("(?:(?:(?:(?:(?:(?:(?:(?:a))))))))", 0);
+        Check.reads("(?=(?!(?:((?=(?!(?:())))))))", 2);
+        Check.reads("((((((((a))))))))(a)", 9);
+        Check.refusesPatterns("(((((((((a)))))))))");
+        Check.refusesPatterns("(?:((((((((a)))))))))");
+        Check.refusesPatterns("(?=((((((((a)))))))))");
+        Check.refusesPatterns("((((((((?!(a)))))))))", "((((((((?!(?:a)))))))))");
+        Check.refusesPatterns("(?:(?:(?:(?:(?:(?:(?:(?:(?:a)))))))))");
     }
 
     // Each of these weighs 120 (or 119), and one more sign or "|" is too much.
     private static void refusesByWeight() {
-        reads("((a{9}){3}){3}", 2);
-        reads("((a{9}){3}){3}b", 2);
-        refuses("((a{9}){3}){3}bb", "((a{9}){3}){3}b|", "((a{9}){3}){3}^$", "((a{9}){3}){3}b$");
-        reads("((a{9}){3}){3}|", 2);
-        refuses("((a{9}){3}){3}||", "((a{9}){3}){3}()b", "((a{9}){3}){3}(?:)b");
-        reads("((a{9}){3}){3}()", 3);
-        reads("((a{9}){3}){3}(?:)", 2);
-        reads("((a{9}){3}){3}(?=)", 2);
-        refuses("((a{9}){3}){3}(?=a)", "((a{9}){3}){3}(?!)^", "((a{9}){3}){3}a?");
-        reads("(?:a{9}){9}", 0);
-        reads("(?:a{9}){9}aaaaaaaaaa", 0);
-        refuses("(?:a{9}){9}aaaaaaaaaaa");
-        refuses("(?:a{9}){9}aaaaaaaaa*");
-        reads("(?:a{9}){9}aaaaaaaa*", 0);
-        reads("(?:a{9}){9}aaaaaaa+", 0);
-        refuses("(?:a{9}){9}aaaaaaaa+");
-        reads("(?:a{9}){9}aaaaaaaa?", 0);
-        refuses("(?:a{9}){9}aaaaaaaaa?");
-        reads("(?:a{9}){9}aaaaaaaa{0}", 0);
-        refuses("(?:a{9}){9}aaaaaaaaa{0}");
-        reads("(?:a{9}){9}aaaa{4,}", 0);
-        refuses("(?:a{9}){9}aaaaa{4,}");
-        reads("(?:a{9}){9}a{0,8}", 0);
-        refuses("(?:a{9}){9}a{0,9}");
-        reads("(?:a{9}){9}\\d\\/.[^a]^$\\1()|", 1);
-        refuses("(?:a{9}){9}\\d\\/.[^a]^$\\1()|aa");
-        refuses("(?:(?:(?:(?:(?:(?:a{9}){9}){9}){9}){9})");
-        refuses("((((((((a{9}){9}){9}){9}){9}){9}){9}");
-        refuses("(((((((a{9}){9}){9}){9}){9}){9}){9})");
-        refuses("((?:|){9}){9}a");
-        reads("(()|(?:a|b)){9}", 2);
+        Check.reads("((a{9}){3}){3}", 2);
+        Check.reads("((a{9}){3}){3}b", 2);
+        Check.refusesPatterns("((a{9}){3}){3}bb", "((a{9}){3}){3}b|", "((a{9}){3}){3}^$",
+            "((a{9}){3}){3}b$");
+        Check.reads("((a{9}){3}){3}|", 2);
+        Check.refusesPatterns("((a{9}){3}){3}||", "((a{9}){3}){3}()b", "((a{9}){3}){3}(?:)b");
+        Check.reads("((a{9}){3}){3}()", 3);
+        Check.reads("((a{9}){3}){3}(?:)", 2);
+        Check.reads("((a{9}){3}){3}(?=)", 2);
+        Check.refusesPatterns("((a{9}){3}){3}(?=a)", "((a{9}){3}){3}(?!)^", "((a{9}){3}){3}a?");
+        Check.reads("(?:a{9}){9}", 0);
+        Check.reads("(?:a{9}){9}aaaaaaaaaa", 0);
+        Check.refusesPatterns("(?:a{9}){9}aaaaaaaaaaa");
+        Check.refusesPatterns("(?:a{9}){9}aaaaaaaaa*");
+        Check.reads("(?:a{9}){9}aaaaaaaa*", 0);
+        Check.reads("(?:a{9}){9}aaaaaaa+", 0);
+        Check.refusesPatterns("(?:a{9}){9}aaaaaaaa+");
+        Check.reads("(?:a{9}){9}aaaaaaaa?", 0);
+        Check.refusesPatterns("(?:a{9}){9}aaaaaaaaa?");
+        Check.reads("(?:a{9}){9}aaaaaaaa{0}", 0);
+        Check.refusesPatterns("(?:a{9}){9}aaaaaaaaa{0}");
+        Check.reads("(?:a{9}){9}aaaa{4,}", 0);
+        Check.refusesPatterns("(?:a{9}){9}aaaaa{4,}");
+        Check.reads("(?:a{9}){9}a{0,8}", 0);
+        Check.refusesPatterns("(?:a{9}){9}a{0,9}");
+        Check.reads("(?:a{9}){9}\\d\\/.[^a]^$\\1()|", 1);
+        Check.refusesPatterns("(?:a{9}){9}\\d\\/.[^a]^$\\1()|aa");
+        Check.refusesPatterns("(?:(?:(?:(?:(?:(?:a{9}){9}){9}){9}){9})");
+        Check.refusesPatterns("((((((((a{9}){9}){9}){9}){9}){9}){9}");
+        Check.refusesPatterns("(((((((a{9}){9}){9}){9}){9}){9}){9})");
+        Check.refusesPatterns("((?:|){9}){9}a");
+        Check.reads("(()|(?:a|b)){9}", 2);
     }
 
     private static void refusesFlags() {

@@ -4,13 +4,15 @@ import java.util.Random;
 /** Long runs of chosen calls (always the same ones), each answer compared with the reference's. */
 public final class RandomRunsTest {
     private static final int RUNS = 1500;
-    private static final int CALLS = 250;
+    // What an object answers behind its 512th call is free.
+    private static final int CALLS = 512;
 
     private final Random random;
     private final PatternRunner runner = new PatternRunner();
     private final Reference model = new Reference();
     private final StringBuilder told = new StringBuilder();
     private String refused = "";
+    private int calls = 0;
     private static int accepted = 0;
     private static int refusals = 0;
     private static int finds = 0;
@@ -39,58 +41,95 @@ public final class RandomRunsTest {
     }
 
     private void go() {
-        int calls = 0;
-        while (calls < CALLS) {
-            calls += some();
+        for (int i = 0; i < CALLS && calls < CALLS; i++) {
+            some();
         }
     }
 
-    /** Makes some calls that belong together; answers how many at most. */
-    private int some() {
-        switch (random.nextInt(12)) {
+    /** Makes some calls that belong together. */
+    private void some() {
+        switch (random.nextInt(14)) {
             case 0:
             case 1:
-                return 1 + typed(aPattern()) + one("pattern", pickFlags());
+                typed(aPattern());
+                one("pattern", pickFlags());
+                break;
             case 2:
-                return 1 + typed(aPattern()) + one("pattern", random.nextInt(8));
+                typed(aPattern());
+                one("pattern", random.nextInt(8));
+                break;
             case 3:
             case 4:
-                return typed(aText()) + one("text", 0);
+                typed(aText());
+                one("text", 0);
+                break;
             case 5:
-                return one("start", random.nextInt(random.nextInt(4) == 0 ? 40 : 12) - 2);
+                one("start", random.nextInt(random.nextInt(4) == 0 ? 40 : 12) - 2);
+                break;
             case 6:
-                return typed(aTemplate()) + one("replace", 0) + allOfResult();
+                typed(aTemplate());
+                one("replace", 0);
+                ofResult();
+                break;
             case 7:
-                return typed(random.nextBoolean() ? aText() : aTemplate());
+                typed(random.nextBoolean() ? aText() : aTemplate());
+                break;
             case 8:
-                return one("result", random.nextInt(210) - 4);
+                one("result", random.nextInt(210) - 4);
+                break;
+            case 9:
+                nearTheLimits();
+                break;
             default:
-                return one("find", 0) + one("steps", 0) + one("steps", 0) + allTaken();
+                one("find", 0);
+                one("steps", 0);
+                taken();
+                break;
         }
+    }
+
+    /** A pattern that makes some 500 steps, and a template that makes some 200 signs. */
+    private void nearTheLimits() {
+        typed("a".repeat(18 + random.nextInt(5)));
+        one("text", 0);
+        typed(pick("a*a*b|(a){9}a{%d}", "a*a*b|a{9}\\d*?a{%d}b", "c|a*b|d{%d}a*c",
+            "(a{6,})\\1(b|c|a{%d}d)", "a+b|(?=a{9}a{%d})|c").replace("%d",
+                String.valueOf(random.nextInt(10))));
+        one("pattern", random.nextInt(4));
+        one("find", 0);
+        one("steps", 0);
+        taken();
+        typed(cut("$&0123456789012345678901234567890123456789", 2 + random.nextInt(20)));
+        one("replace", 0);
+        ofResult();
     }
 
     private int pickFlags() {
         return random.nextInt(10) == 0 ? random.nextInt(20) - 6 : random.nextInt(8);
     }
 
-    private int allTaken() {
-        for (int k = -1; k <= 10; k++) {
+    private void taken() {
+        int most = random.nextInt(3) == 0 ? 10 : 2;
+        for (int k = most == 10 ? -1 : 0; k <= most; k++) {
             one("from", k);
             one("to", k);
         }
-        return 10;
     }
 
-    private int allOfResult() {
-        for (int i = -1; i <= model.resultLength(); i++) {
+    private void ofResult() {
+        int length = model.resultLength();
+        boolean isAll = length < 12 || random.nextInt(4) == 0;
+        for (int i = -1; i <= length; i += isAll ? 1 : 1 + random.nextInt(length / 4)) {
             one("result", i);
         }
-        return 10;
+        one("result", length - 1);
+        one("result", length);
     }
 
-    private int typed(String signs) {
-        int calls = 0;
-        for (int i = 0; i < signs.length(); calls++) {
+    private void typed(String signs) {
+        int i = 0;
+        while (i < signs.length() && calls < CALLS) {
+            calls++;
             int n = Math.min(signs.length() - i, 1 + random.nextInt(8));
             String part = signs.substring(i, i + n);
             told.append("type ").append(part).append('\n');
@@ -99,16 +138,18 @@ public final class RandomRunsTest {
             compare("type", due, got);
             i += n;
         }
-        return calls;
     }
 
-    private int one(String name, int argument) {
+    private void one(String name, int argument) {
+        if (calls >= CALLS) {
+            return;
+        }
+        calls++;
         told.append(name).append(' ').append(argument).append('\n');
         long due = answer(() -> ofModel(name, argument));
         long got = answer(() -> ofRunner(name, argument));
         compare(name, due, got);
         count(name, due);
-        return 1;
     }
 
     private void count(String name, long due) {
@@ -187,8 +228,12 @@ public final class RandomRunsTest {
 
     private String aPattern() {
         if (random.nextInt(10) == 0) {
-            return pick("(a*)*b", "(a|b)*?c", "(?:a|(a))+$", "(a+)+\\1b", "(?=(a*)*b)|a*", "(.?.)*x",
-                "(?!(a|b)*c)\\w*1", "a*a*a*b", "(?:[ab]{1,3}?)*c", "((a?)*)*b|b", "(a{2,3}|a)*1");
+            return pick("(a*)*b", "(a|b)*?c", "(?:a|(a))+$", "(a+)+\\1b", "(?=(a*)*b)|a*",
+                "(.?.)*x", "(?!(a|b)*c)\\w*1", "a*a*a*b", "(?:[ab]{1,3}?)*c", "((a?)*)*b|b",
+                "(a{2,3}|a)*1");
+        }
+        if (random.nextInt(6) == 0) {
+            return cut(aFullPattern(), 40);
         }
         String pattern = alternatives(random.nextInt(4));
         for (int tries = 0; tries < 20 && pattern.length() > 40; tries++) {
@@ -202,6 +247,25 @@ public final class RandomRunsTest {
                 + pattern.substring(place + random.nextInt(2));
         }
         return cut(pattern, 40);
+    }
+
+    /** A pattern with nearly or more than what is allowed of groups, nesting or weight. */
+    private String aFullPattern() {
+        switch (random.nextInt(3)) {
+            case 0:
+                return "(a)".repeat(random.nextInt(3)) + "()".repeat(6 + random.nextInt(3))
+                    + pick("", "(?:b)", "|", "\\9", "\\8", "(?=a)");
+            case 1:
+                StringBuilder nested = new StringBuilder();
+                int depth = 6 + random.nextInt(4);
+                for (int i = 0; i < depth; i++) {
+                    nested.append(pick("(", "(", "(?:", "(?=", "(?!"));
+                }
+                return nested + pick("", "a", ".*", "|b") + ")".repeat(depth) + pick("", "a", "*");
+            default:
+                return pick("(?:a{9}){9}", "((a|b{7}){5}){2}", "(?:(a)|b{8,}){7}", "(?:a*b+){9}")
+                    + "a".repeat(random.nextInt(8)) + term(1) + term(1);
+        }
     }
 
     private String alternatives(int depth) {

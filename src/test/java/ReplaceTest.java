@@ -12,57 +12,49 @@ public final class ReplaceTest {
         Check.end();
     }
 
-    private static void replaces(String pattern, int flags, String text, String template,
-            int count, String due) {
-        PatternRunner runner = Check.ready(pattern, flags, text);
-        String what = "replace() of " + pattern + " by " + template + " in " + text;
-        Check.is(what, count, Check.replace(runner, template));
-        Check.isText(what, due, Check.result(runner));
-    }
-
     private static void fillsTemplates() {
-        replaces("b", 0, "abc", "x", 1, "axc");
-        replaces("b", 0, "abc", "", 1, "ac");
-        replaces("b", 0, "abc", "$$", 1, "a$c");
-        replaces("b", 0, "abc", "[$&$&]", 1, "a[bb]c");
-        replaces("(a)(b)", 0, "abc", "$2$1", 1, "bac");
-        replaces("(a)|(b)", 0, "ab", "<$1$2>", 2, "<a><b>");
-        replaces("(a)", 0, "a", "$2", 1, "$2");
-        replaces("(a)", 0, "a", "$0", 1, "$0");
-        replaces("(a)", 0, "a", "$", 1, "$");
-        replaces("(a)", 0, "a", "x$", 1, "x$");
-        replaces("(a)", 0, "a", "$$1", 1, "$1");
-        replaces("(a)", 0, "a", "$$$1", 1, "$a");
-        replaces("(a)", 0, "a", "$$$$$", 1, "$$$");
-        replaces("(a)", 0, "a", "$11", 1, "a1");
-        replaces("(a)", 0, "a", "$x$1", 1, "$xa");
-        replaces("(a)", 0, "a", "$3$1", 1, "$3a");
-        replaces("(a)", 0, "a", "&1\\1%", 1, "&1\\1%");
-        replaces("a", 0, "a", "$1", 1, "$1");
-        replaces("()a", 0, "a", "<$1>", 1, "<>");
-        replaces("(a)(b)(c)(d)(e)(f)(g)(h)(i)", 0, "abcdefghi", "$9$8$7$6$5$4$3$2$1", 1,
+        Check.replaces("b", 0, "abc", "x", 1, "axc");
+        Check.replaces("b", 0, "abc", "", 1, "ac");
+        Check.replaces("b", 0, "abc", "$$", 1, "a$c");
+        Check.replaces("b", 0, "abc", "[$&$&]", 1, "a[bb]c");
+        Check.replaces("(a)(b)", 0, "abc", "$2$1", 1, "bac");
+        Check.replaces("(a)|(b)", 0, "ab", "<$1$2>", 2, "<a><b>");
+        Check.replaces("(a)", 0, "a", "$2", 1, "$2");
+        Check.replaces("(a)", 0, "a", "$0", 1, "$0");
+        Check.replaces("(a)", 0, "a", "$", 1, "$");
+        Check.replaces("(a)", 0, "a", "x$", 1, "x$");
+        Check.replaces("(a)", 0, "a", "$$1", 1, "$1");
+        Check.replaces("(a)", 0, "a", "$$$1", 1, "$a");
+        Check.replaces("(a)", 0, "a", "$$$$$", 1, "$$$");
+        Check.replaces("(a)", 0, "a", "$11", 1, "a1");
+        Check.replaces("(a)", 0, "a", "$x$1", 1, "$xa");
+        Check.replaces("(a)", 0, "a", "$3$1", 1, "$3a");
+        Check.replaces("(a)", 0, "a", "&1\\1%", 1, "&1\\1%");
+        Check.replaces("a", 0, "a", "$1", 1, "$1");
+        Check.replaces("()a", 0, "a", "<$1>", 1, "<>");
+        Check.replaces("(a)(b)(c)(d)(e)(f)(g)(h)(i)", 0, "abcdefghi", "$9$8$7$6$5$4$3$2$1", 1,
             "ihgfedcba");
-        replaces("(?=(b))", 0, "ab", "$1", 1, "abb");
+        Check.replaces("(?=(b))", 0, "ab", "$1", 1, "abb");
     }
 
     private static void goesOnBehindEach() {
-        replaces("a", 0, "banana", "o", 3, "bonono");
-        replaces("a*", 0, "xaabbaab", "-", 7, "-x--b-b--b-");
-        replaces("", 0, "ab", "-", 3, "-a-b-");
-        replaces("", 0, "", "-", 1, "-");
-        replaces("", 0, "", "", 1, "");
-        replaces("x", 0, "abc", "y", 0, "abc");
-        replaces("aa", 0, "aaaaa", "b", 2, "bba");
-        replaces("a", 1, "aaba", "x", 2, "xxba");
-        replaces("b", 1, "ab", "x", 0, "ab");
-        replaces("a*", 1, "ab", "-", 3, "--b-");
-        replaces("^", 2, "a/b", "> ", 2, "> a/> b");
-        replaces("$", 2, "a/b", ";", 2, "a;/b;");
-        replaces("^a", 0, "aa", "x", 1, "xa");
-        replaces("A", 4, "aAb", "$&$&", 2, "aaAAb");
-        replaces("", 0, "aaaaaaaaaaaaaaaaaaaaaaaa", "-", 25,
+        Check.replaces("a", 0, "banana", "o", 3, "bonono");
+        Check.replaces("a*", 0, "xaabbaab", "-", 7, "-x--b-b--b-");
+        Check.replaces("", 0, "ab", "-", 3, "-a-b-");
+        Check.replaces("", 0, "", "-", 1, "-");
+        Check.replaces("", 0, "", "", 1, "");
+        Check.replaces("x", 0, "abc", "y", 0, "abc");
+        Check.replaces("aa", 0, "aaaaa", "b", 2, "bba");
+        Check.replaces("a", 1, "aaba", "x", 2, "xxba");
+        Check.replaces("b", 1, "ab", "x", 0, "ab");
+        Check.replaces("a*", 1, "ab", "-", 3, "--b-");
+        Check.replaces("^", 2, "a/b", "> ", 2, "> a/> b");
+        Check.replaces("$", 2, "a/b", ";", 2, "a;/b;");
+        Check.replaces("^a", 0, "aa", "x", 1, "xa");
+        Check.replaces("A", 4, "aAb", "$&$&", 2, "aaAAb");
+        Check.replaces("", 0, "aaaaaaaaaaaaaaaaaaaaaaaa", "-", 25,
             "-a-a-a-a-a-a-a-a-a-a-a-a-a-a-a-a-a-a-a-a-a-a-a-a-");
-        replaces("a", 0, "aaaaaaaaaaaaaaaaaaaaaaaa", "", 24, "");
+        Check.replaces("a", 0, "aaaaaaaaaaaaaaaaaaaaaaaa", "", 24, "");
     }
 
     private static void leavesStateBehind() {
@@ -83,9 +75,9 @@ public final class ReplaceTest {
 
     private static void throwsAboveTwoHundred() {
         String twenty = "12345678901234567890";
-        replaces("b", 0, "bbbbbbbbbb", twenty, 10, twenty.repeat(10));
-        replaces("b", 0, "bbbbb", twenty + twenty, 5, twenty.repeat(10));
-        replaces("b", 0, "bbbbbbbbbaaa", twenty + "a", 9, (twenty + "a").repeat(9) + "aaa");
+        Check.replaces("b", 0, "bbbbbbbbbb", twenty, 10, twenty.repeat(10));
+        Check.replaces("b", 0, "bbbbb", twenty + twenty, 5, twenty.repeat(10));
+        Check.replaces("b", 0, "bbbbbbbbbaaa", twenty + "a", 9, (twenty + "a").repeat(9) + "aaa");
 
         PatternRunner runner = Check.ready("(b)", 0, "bbbbbbbbbba");
         Check.is("a result to be kept", 10, Check.replace(runner, "x"));

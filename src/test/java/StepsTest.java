@@ -7,39 +7,33 @@ public final class StepsTest {
         Check.end();
     }
 
-    private static void steps(String pattern, int flags, String text, int due) {
-        PatternRunner runner = Check.ready(pattern, flags, text);
-        runner.find();
-        Check.is("steps() of " + pattern + " in " + text, due, runner.steps());
-    }
-
     private static void countsSteps() {
-        steps("", 0, "", 1);
-        steps("a", 0, "a", 2);
-        steps("a", 0, "", 2);
-        steps("a", 0, "bba", 6);
-        steps("a", 1, "bba", 2);
-        steps("^$", 0, "", 1);
-        steps("^$", 0, "ab", 3);
-        steps("(a+)(b*)", 0, "xaabbaab", 12);
-        steps("(?:){3}(a?){2,4}?a$", 0, "aaaa", 12);
-        steps("(a|ab)(c|bcd)(d*)", 0, "b", 10);
-        steps("(a*)*b", 0, "aaaa", 124);
-        steps("||", 0, "", 1);
-        steps("a|b|", 0, "", 5);
-        steps("(?:)", 0, "", 2);
-        steps("()\\1", 0, "", 3);
-        steps("\\1(a)", 0, "a", 4);
-        steps("(?=a)a", 0, "a", 4);
-        steps("(?!a)b", 0, "b", 4);
-        steps("(?!a)", 0, "", 3);
-        steps("a{0}", 0, "a", 1);
-        steps("a{0,0}(b){0}", 0, "a", 1);
-        steps("a{3}", 0, "aaa", 4);
-        steps("a??", 0, "a", 1);
-        steps("a?", 0, "a", 2);
-        steps(".\\d[b]", 0, "a1b", 4);
-        steps("(?:a|b)+", 0, "ab", 11);
+        Check.steps("", 0, "", 1);
+        Check.steps("a", 0, "a", 2);
+        Check.steps("a", 0, "", 2);
+        Check.steps("a", 0, "bba", 6);
+        Check.steps("a", 1, "bba", 2);
+        Check.steps("^$", 0, "", 1);
+        Check.steps("^$", 0, "ab", 3);
+        Check.steps("(a+)(b*)", 0, "xaabbaab", 12);
+        Check.steps("(?:){3}(a?){2,4}?a$", 0, "aaaa", 12);
+        Check.steps("(a|ab)(c|bcd)(d*)", 0, "b", 10);
+        Check.steps("(a*)*b", 0, "aaaa", 124);
+        Check.steps("||", 0, "", 1);
+        Check.steps("a|b|", 0, "", 5);
+        Check.steps("(?:)", 0, "", 2);
+        Check.steps("()\\1", 0, "", 3);
+        Check.steps("\\1(a)", 0, "a", 4);
+        Check.steps("(?=a)a", 0, "a", 4);
+        Check.steps("(?!a)b", 0, "b", 4);
+        Check.steps("(?!a)", 0, "", 3);
+        Check.steps("a{0}", 0, "a", 1);
+        Check.steps("a{0,0}(b){0}", 0, "a", 1);
+        Check.steps("a{3}", 0, "aaa", 4);
+        Check.steps("a??", 0, "a", 1);
+        Check.steps("a?", 0, "a", 2);
+        Check.steps(".\\d[b]", 0, "a1b", 4);
+        Check.steps("(?:a|b)+", 0, "ab", 11);
     }
 
     private static void isOfTheLatestFind() {
@@ -65,9 +59,9 @@ public final class StepsTest {
     }
 
     private static void goesUpToFiveHundred() {
-        steps("a+?b|c|d", 0, "aaaaaaaaaaaaaaaaaaa", 500);
-        steps("a*b|()c", 0, "aaaaaaaaaaaaaaaaaaa", 500);
-        steps("a*b|ac", 0, "aaaaaaaaaaaaaaaaaaa", 499);
+        Check.steps("a+?b|c|d", 0, "aaaaaaaaaaaaaaaaaaa", 500);
+        Check.steps("a*b|()c", 0, "aaaaaaaaaaaaaaaaaaa", 500);
+        Check.steps("a*b|ac", 0, "aaaaaaaaaaaaaaaaaaa", 499);
         PatternRunner more = Check.ready("(a+)+b", 0, "aaaaaa");
         Check.refuses("501 steps", UnsupportedOperationException.class, more::find);
         Check.is("steps() when find() threw", 0, more.steps());
