@@ -123,6 +123,8 @@ public final class BoundaryPatternTest {
         }
         Check.refusesPatterns("(?", "(?)", "(?:", "(?=", "(?!", "(??:a)", "(?<=a)", "(?<!a)");
         Check.reads("(:a)(=a)(!a)", 3);
+        Check.reads("a?:b?=c?!", 0);
+        Check.reads("(a?:)(b?=)(c?!)", 3);
     }
 
     private static void hasCountsOfOneDigit() {

@@ -21,6 +21,8 @@ public final class BoundaryTryTest {
         choosesToPassOnceMore();
         failsWithoutMoving();
         doesNotPassWhenTheMostIsNone();
+        hasManyCountsAndLooks();
+        goesBackThroughManyChoices();
         Check.end();
     }
 
@@ -90,9 +92,17 @@ public final class BoundaryTryTest {
             Check.finds("a\\/^b", flags, "a/b", isLines ? "0-3" : "none");
             Check.finds("[^]^", flags, "a/", isLines ? "1-2" : "none");
         }
-        PatternRunner runner = Check.ready("^", 0, "ab");
-        runner.start(1);
-        Check.is("^ is at 0, not at START", -1, runner.find());
+        for (int flags = 0; flags <= 7; flags++) {
+            boolean isLines = (flags & LINES) != 0;
+            PatternRunner runner = Check.ready("^", flags, "a/b");
+            runner.start(1);
+            boolean isTriedBehind = (flags & Check.STICKY) == 0;
+            Check.is("^ at 0, not at START", isLines && isTriedBehind ? 2 : -1, runner.find());
+            runner.start(2);
+            Check.is("^ behind /", isLines ? 2 : -1, runner.find());
+            runner.start(3);
+            Check.is("^ at the end", -1, runner.find());
+        }
         PatternRunner full = Check.ready("^$", LINES, "a".repeat(23) + "/");
         Check.is("behind the 24th sign", 24, full.find());
     }
@@ -110,6 +120,17 @@ public final class BoundaryTryTest {
             Check.finds("$a", flags, "a/a", "none");
             Check.finds("$\\/a", flags, "a/a", isLines ? "1-3" : "none");
             Check.finds("b$", flags, "/b", "1-2");
+        }
+        for (int flags = 0; flags <= 7; flags++) {
+            boolean isLines = (flags & LINES) != 0;
+            boolean isTriedBehind = (flags & Check.STICKY) == 0;
+            PatternRunner runner = Check.ready("$", flags, "a/b");
+            runner.start(1);
+            Check.is("$ at /", isLines ? 1 : isTriedBehind ? 3 : -1, runner.find());
+            runner.start(2);
+            Check.is("$ behind /", isTriedBehind ? 3 : -1, runner.find());
+            runner.start(3);
+            Check.is("$ at the end", 3, runner.find());
         }
     }
 
@@ -304,5 +325,43 @@ public final class BoundaryTryTest {
         Check.finds("[]{0}a", 0, "a", "0-1");
         Check.finds("a{0,1}", 0, "a", "0-1");
         Check.finds("(?:a{0}b)*", 0, "bbab", "0-2");
+    }
+
+    private static void hasManyCountsAndLooks() {
+        Check.sentence("there would be more than 40");
+        Check.finds("a?".repeat(20), 0, "a".repeat(24), "0-20");
+        Check.finds("a?b*".repeat(10), 0, "abbab".repeat(4), "0-20");
+        Check.finds("a+?".repeat(13) + "b", 0, "a".repeat(13) + "b", "0-14");
+        Check.finds("(?=)".repeat(9) + "(?!)", 0, "a", "none");
+        Check.finds("(?=)".repeat(10), 0, "a", "0-0");
+        Check.finds("(?=(?=(?=(?=(?=(?=(?=(?=a))))))))", 0, "ba", "1-1");
+        Check.finds("(?!(?!(?!(?!(?!(?!(?!(?!a))))))))", 0, "ba", "1-1");
+        Check.finds("(?:(?:(?:(?:a*b)*c)*d)*e)*f", 0, "aabbcabcdabcdeabcdef", "0-20");
+    }
+
+    // All numbers of choices from 2 to 127 are gone back through.
+    private static void goesBackThroughManyChoices() {
+        Check.sentence("the last choice that has another way left is taken anew");
+        for (int n = 0; n <= 24; n++) {
+            for (int k = 0; k <= 5; k++) {
+                Check.finds("(?:x??){" + k + "}(?:(?:x??){4}a)*?z|(a*)$", Check.STICKY,
+                    "a".repeat(n), "0-" + n + " 1:0-" + n);
+            }
+            for (int groups = 1; groups <= 6; groups++) {
+                String pass = "(".repeat(groups) + "a" + ")".repeat(groups);
+                for (int empty = 0; empty <= 3; empty++) {
+                    Check.finds("(?:){" + empty + "}(?:" + pass + ")*z|a*$", Check.STICKY,
+                        "a".repeat(n), "0-" + n + nothingTaken(groups));
+                }
+            }
+        }
+    }
+
+    private static String nothingTaken(int groups) {
+        StringBuilder all = new StringBuilder();
+        for (int k = 1; k <= groups; k++) {
+            all.append(' ').append(k).append(":none");
+        }
+        return all.toString();
     }
 }
