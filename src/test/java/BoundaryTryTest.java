@@ -23,6 +23,7 @@ public final class BoundaryTryTest {
         doesNotPassWhenTheMostIsNone();
         hasManyCountsAndLooks();
         goesBackThroughManyChoices();
+        bringsBackWhatGroupsTook();
         Check.end();
     }
 
@@ -353,6 +354,29 @@ public final class BoundaryTryTest {
                     Check.finds("(?:){" + empty + "}(?:" + pass + ")*z|a*$", Check.STICKY,
                         "a".repeat(n), "0-" + n + nothingTaken(groups));
                 }
+            }
+        }
+    }
+
+    // The last pass is begun and fails: what it forgot comes back. There are so many forms for
+    // the sake of rows inside that are exactly full then.
+    private static void bringsBackWhatGroupsTook() {
+        Check.sentence("all that came behind it being as it was before (what groups took, too)");
+        for (int n = 1; n <= 24; n++) {
+            StringBuilder due = new StringBuilder("0-" + n + " 1:" + (n - 1) + "-" + n);
+            for (int empty = 1; empty <= 6; empty++) {
+                due.append(" " + (empty + 1) + ":" + (n - 1) + "-" + (n - 1));
+                String counted = "(?:(?=(a))" + "()".repeat(empty) + "a)+$";
+                bringsBackBehindEmptyPasses(counted, n, due.toString());
+            }
+        }
+    }
+
+    private static void bringsBackBehindEmptyPasses(String counted, int n, String due) {
+        for (int i = 0; i <= 9; i++) {
+            for (int j = 0; j <= 9; j += 3) {
+                Check.finds("(?:){" + i + "}(?:){" + j + "}" + counted, Check.STICKY,
+                    "a".repeat(n), due);
             }
         }
     }
